@@ -272,7 +272,7 @@ public final class FieldsByClasses {
         return isM(m) ? m : NONE;
     }
 
-    /** Whole numbers, none of them below 0 but for values by a prime. */
+    /** Whole numbers, 0 or above. */
     private static final class Whole {
         static int rest(int a, int b) {
             return b < 1 ? 0 : a % b;
@@ -340,7 +340,7 @@ public final class FieldsByClasses {
         static int signOfPrimes(int a) {
             int sign = 1;
             for (int p = 2; p <= a; p++) {
-                if (isPrime(p) && goesInto(p, a)) {
+                if (goesInto(p, a) && isPrime(p)) {
                     if (howOften(p, a) > 1) {
                         return 0;
                     }
@@ -551,7 +551,7 @@ public final class FieldsByClasses {
         void find(int m) {
             size = 0;
             for (int p = 2; p <= m; p++) {
-                if (Whole.isPrime(p) && Whole.goesInto(p, m)) {
+                if (Whole.goesInto(p, m) && Whole.isPrime(p)) {
                     addThoseBy(p, Whole.quotient(m, Whole.without(m, p)));
                 }
             }
@@ -588,7 +588,7 @@ public final class FieldsByClasses {
         }
 
         private void add(int length) {
-            if (size < MOST) {
+            if (size >= 0 && size < MOST) {
                 lengths[size] = length;
                 size++;
             }
@@ -635,7 +635,7 @@ public final class FieldsByClasses {
 
         /** The number of the FIELD of a BAR and a GROUP by it, put last if it is new; NONE if there is no room. */
         int put(int bar, long group) {
-            for (int i = 0; holds(i); i++) {
+            for (int i = 0; i < size && i < MOST_FIELDS; i++) {
                 if (bars[i] == bar && groups[i] == group) {
                     return i;
                 }
@@ -651,7 +651,7 @@ public final class FieldsByClasses {
 
         int greatestBar() {
             int greatest = 0;
-            for (int i = 0; holds(i); i++) {
+            for (int i = 0; i < size && i < MOST_FIELDS; i++) {
                 greatest = Math.max(greatest, bars[i]);
             }
             return greatest;
@@ -754,7 +754,7 @@ public final class FieldsByClasses {
 
         int howMany(int degree, int bound) {
             int many = 0;
-            for (int i = 0; holds(i) && bars[i] <= bound; i++) {
+            for (int i = 0; i < size && i < MOST && bars[i] <= bound; i++) {
                 if (degrees[i] == degree) {
                     many++;
                 }
@@ -765,7 +765,7 @@ public final class FieldsByClasses {
         /** The place of FIELD k of a DEGREE with a BAR of at most the bound; NONE if there is none such. */
         int placeOf(int degree, int bound, int k) {
             int seen = 0;
-            for (int i = 0; holds(i) && bars[i] <= bound; i++) {
+            for (int i = 0; i < size && i < MOST && bars[i] <= bound; i++) {
                 if (degrees[i] == degree) {
                     if (seen == k) {
                         return i;
@@ -855,14 +855,16 @@ public final class FieldsByClasses {
         }
 
         private void fillTraces(int m) {
-            for (int j = 0; j < m && j < traces.length; j++) {
-                long trace = 0;
-                for (int d = 1; d <= m; d++) {
-                    if (Whole.goesInto(d, m) && Whole.goesInto(d, j)) {
-                        trace += d * Whole.signOfPrimes(Whole.quotient(m, d));
+            for (int j = 0; j < traces.length; j++) {
+                traces[j] = 0;
+            }
+            for (int d = 1; d <= m; d++) {
+                if (Whole.goesInto(d, m)) {
+                    long more = d * Whole.signOfPrimes(Whole.quotient(m, d));
+                    for (int j = 0; j < m && j < traces.length; j += d) {
+                        traces[j] += more;
                     }
                 }
-                traces[j] = trace;
             }
         }
 
@@ -919,14 +921,17 @@ public final class FieldsByClasses {
             }
         }
 
+        private long powerAt(int j) {
+            return j >= 0 && j < power.length ? power[j] : 0L;
+        }
+
         /** The power times the first SUM. */
         private void multiply(long group, int m) {
             for (int j = 0; j < m && j < next.length; j++) {
                 long often = 0;
                 for (int r = 0; r < m; r++) {
                     if (Rests.has(group, r)) {
-                        int from = Whole.rest(j - r + m, m);
-                        often += from < power.length ? power[from] : 0L;
+                        often += powerAt(Whole.rest(j - r + m, m));
                     }
                 }
                 next[j] = often;

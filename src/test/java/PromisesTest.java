@@ -461,10 +461,28 @@ public final class PromisesTest {
         due("listed(2, 0, 0)", x.listed(2, 0, 0), -1);
         due("listed(2, 64, 0)", x.listed(2, 64, 0), -1);
         due("count(0)", x.count(0), 11);
+        for (int degree = 1; degree <= 8; degree++) {
+            listIsInOrder(degree);
+        }
         FieldsByClasses y = full();
         due("the 41st", y.listed(3, 63, 0), -1);
         due("one that is there", y.listed(2, 63, 39), 39);
         due("list(3, 63)", y.list(3, 63), 10);
+    }
+
+    private static void listIsInOrder(int degree) {
+        FieldsByClasses x = new FieldsByClasses();
+        int bar = 0;
+        long bits = -1;
+        for (int k = 0; k < x.list(degree, 63); k++) {
+            x.clear();
+            due("listed(" + degree + ", 63, " + k + ")", x.listed(degree, 63, k), 0);
+            boolean inOrder = x.tell(0, 0) > bar || x.tell(0, 0) == bar && x.group(0) > bits;
+            due("listed(" + degree + ", 63, " + k + ") is in order", inOrder, true);
+            due("its DEGREE", x.tell(0, 1), degree);
+            bar = x.tell(0, 0);
+            bits = x.group(0);
+        }
     }
 
     private static void promise16() {
