@@ -7,9 +7,10 @@ public final class PromisesTest {
     private static final int[] WRONG_PRIMES = {Integer.MIN_VALUE, -7, -2, -1, 0, 1, 4, 9, 961, 991 * 2, 998, 999, 1009,
         Integer.MAX_VALUE};
     private static int wrong = 0;
-    private static int promise = 0;
+    private static volatile int promise = 0;
 
     public static void main(String[] args) {
+        failAfter(120);
         promise1();
         promise2();
         promise3();
@@ -35,6 +36,22 @@ public final class PromisesTest {
         if (wrong != 0) {
             System.exit(1);
         }
+    }
+
+    /** A call that does not end must fail the test, not hold it up. */
+    private static void failAfter(int seconds) {
+        Thread guard = new Thread(() -> {
+            try {
+                Thread.sleep(1000L * seconds);
+            } catch (InterruptedException e) {
+                return;
+            }
+            System.out.println("promise " + promise + ": "
+                + "not at its end after " + seconds + " seconds");
+            Runtime.getRuntime().halt(1);
+        });
+        guard.setDaemon(true);
+        guard.start();
     }
 
     private static void due(String call, Object got, Object want) {

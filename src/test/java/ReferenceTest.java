@@ -15,11 +15,19 @@ import java.util.TreeSet;
  */
 public final class ReferenceTest {
     private static final int RUNS = 80;
+    private static final int LEAST = Integer.MIN_VALUE;
+    private static final int MOST = Integer.MAX_VALUE;
+    private static final int[] EDGES = {LEAST, LEAST + 1, -65, -63, -2, -1, 0, 1, 2, 3, 5, 6, 8, 9, 39, 40, 41, 60, 61, 62, 63, 64,
+        65, 997, 998, 1009, MOST - 1, MOST};
+    private static final long[] EDGE_BITS = {Long.MIN_VALUE, Long.MIN_VALUE + 1, Long.MIN_VALUE + 2, -2, -1, 0, 1, 2, 3, 4, 1L << 8,
+        1L << 31, 1L << 32, 1L << 38, 1L << 61, 1L << 62, 1L << 62 | 2, Long.MAX_VALUE - 1, Long.MAX_VALUE};
     private static int wrong = 0;
 
     public static void main(String[] args) {
+        failAfter(900);
         everyRest();
         everyField();
+        everyEdge();
         for (int run = 0; run < RUNS; run++) {
             oneRun(run);
         }
@@ -27,6 +35,21 @@ public final class ReferenceTest {
         if (wrong != 0) {
             System.exit(1);
         }
+    }
+
+    /** A call that does not end must fail the test, not hold it up. */
+    private static void failAfter(int seconds) {
+        Thread guard = new Thread(() -> {
+            try {
+                Thread.sleep(1000L * seconds);
+            } catch (InterruptedException e) {
+                return;
+            }
+            System.out.println("not at its end after " + seconds + " seconds");
+            Runtime.getRuntime().halt(1);
+        });
+        guard.setDaemon(true);
+        guard.start();
     }
 
     private static void due(String call, Object got, Object want) {
@@ -40,8 +63,8 @@ public final class ReferenceTest {
 
     /** All m and all RESTS by it: the factors are so many cycles put together, each going into the next. */
     private static void everyRest() {
-        FieldsByClasses x = new FieldsByClasses();
         for (int m = 1; m <= 63; m++) {
+            FieldsByClasses x = new FieldsByClasses();
             Set<Integer> rests = Slow.rests(m);
             due("rests(" + m + ")", x.rests(m), rests.size());
             Map<Integer, Integer> orders = new HashMap<>();
@@ -98,26 +121,98 @@ public final class ReferenceTest {
         }
     }
 
+    /** All arguments at the edges together, where 0, 3 and 40 FIELDS are made: no call throws, and all are answered alike. */
+    private static void everyEdge() {
+        for (int made : new int[] {0, 3, 40}) {
+            Slow base = new Slow();
+            for (int m = 1; base.made.size() < made; m++) {
+                base.make(m, 0L);
+            }
+            for (int a : EDGES) {
+                edgesOfOne(a, base);
+                for (int b : EDGES) {
+                    edgesOfTwo(a, b, base);
+                    edgesOfThree(a, b, base);
+                }
+            }
+        }
+    }
+
+    /** Such FIELDS as the second build has. */
+    private static FieldsByClasses madeLike(Slow base) {
+        FieldsByClasses x = new FieldsByClasses();
+        for (int i = 0; i < base.made.size(); i++) {
+            due("make for an edge", x.make(base.made.get(i).m, base.group(i)), i);
+        }
+        return x;
+    }
+
+    private static void edgesOfOne(int a, Slow base) {
+        FieldsByClasses x = madeLike(base);
+        Slow s = base.copied();
+        String name = "edge " + a + ": ";
+        due(name + "rests", x.rests(a), s.restsOf(a));
+        due(name + "group", x.group(a), s.group(a));
+        due(name + "count", x.count(a), s.count(a));
+        due(name + "image", x.image(a), s.image(a));
+        for (long bits : EDGE_BITS) {
+            due(name + "make of " + bits, x.make(a, bits), s.make(a, bits));
+        }
+        due(name + "again", x.again(a), s.again(a));
+        due(name + "again 1", x.again(1), s.again(1));
+        due(name + "count 0", x.count(0), s.count(0));
+    }
+
+    private static void edgesOfTwo(int a, int b, Slow base) {
+        FieldsByClasses x = madeLike(base);
+        Slow s = base.copied();
+        String name = "edges " + a + ", " + b + ": ";
+        due(name + "order", x.order(a, b), s.orderOf(a, b));
+        due(name + "factor", x.factor(a, b), s.factor(a, b));
+        due(name + "liesIn", x.liesIn(a, b), s.liesIn(a, b));
+        due(name + "tell", x.tell(a, b), s.tell(a, b));
+        due(name + "discriminant", x.discriminant(a, b), s.discriminant(a, b));
+        due(name + "list", x.list(a, b), s.list(a, b));
+        due(name + "polynomial", x.polynomial(a, b), s.polynomial(a, b));
+        due(name + "roots", x.roots(a, b), s.roots(a, b));
+        due(name + "powers", x.powers(a, b), s.powers(a, b));
+        due(name + "join", x.join(a, b), s.join(a, b));
+        due(name + "meet", x.meet(a, b), s.meet(a, b));
+        due(name + "count", x.count(0), s.count(0));
+    }
+
+    private static void edgesOfThree(int a, int b, Slow base) {
+        FieldsByClasses x = madeLike(base);
+        Slow s = base.copied();
+        for (int c : EDGES) {
+            String name = "edges " + a + ", " + b + ", " + c + ": ";
+            due(name + "parts", x.parts(a, b, c), s.parts(a, b, c));
+            due(name + "listed", x.listed(a, b, c), s.listed(a, b, c));
+        }
+    }
+
     private static void oneRun(int run) {
         Random random = new Random(7919L * run + 1);
         FieldsByClasses x = new FieldsByClasses();
         Slow s = new Slow();
-        for (int call = 0; call < 512 && wrong < 50; call++) {
-            String name = "run " + run + ", call " + call + ": ";
+        // What is told at the end takes 40 calls of the 512.
+        for (int calls = 0; calls < 471 && wrong < 50;) {
+            String name = "run " + run + ", call " + calls + ": ";
             int kind = random.nextInt(random.nextInt(8) == 0 ? 20 : 10);
             int a = random.nextInt(24) == 0 ? pick(random, -2, 45) : random.nextInt(Math.max(1, s.made.size()));
             int b = random.nextInt(24) == 0 ? pick(random, -2, 45) : random.nextInt(Math.max(1, s.made.size()));
             int m = random.nextInt(24) == 0 ? pick(random, -2, 66) : 1 + random.nextInt(63);
             int what = pick(random, -1, 6);
             int p = random.nextInt(3) == 0 ? pick(random, -3, 1020) : prime(random);
-            oneCall(name, kind, new int[] {a, b, m, what, p}, random, x, s);
+            calls += oneCall(name, kind, new int[] {a, b, m, what, p}, random, x, s);
         }
         for (int field = 0; field < s.made.size(); field++) {
             due("run " + run + ", at its end group(" + field + ")", x.group(field), s.group(field));
         }
     }
 
-    private static void oneCall(String name, int kind, int[] n, Random random, FieldsByClasses x, Slow s) {
+    /** How many calls it took. */
+    private static int oneCall(String name, int kind, int[] n, Random random, FieldsByClasses x, Slow s) {
         int a = n[0];
         int b = n[1];
         int m = n[2];
@@ -150,7 +245,7 @@ public final class ReferenceTest {
                 due(name + "list(" + degree + ", " + m + ")", x.list(degree, m), s.list(degree, m));
                 int k = pick(random, -1, 40);
                 due(name + "listed(" + degree + ", " + m + ", " + k + ")", x.listed(degree, m, k), s.listed(degree, m, k));
-                break;
+                return 2;
             }
             case 13: due(name + "count " + args, x.count(what), s.count(what)); break;
             case 14:
@@ -165,7 +260,9 @@ public final class ReferenceTest {
             default:
                 due(name + "count(0)", x.count(0), s.count(0));
                 due(name + "count(1)", x.count(1), s.count(1));
+                return 2;
         }
+        return 1;
     }
 
     private static int pick(Random random, int least, int most) {
@@ -316,6 +413,51 @@ public final class ReferenceTest {
                 }
             }
             return new Field(m, group);
+        }
+
+        Slow copied() {
+            Slow copy = new Slow();
+            copy.made = new ArrayList<>(made);
+            copy.images.putAll(images);
+            return copy;
+        }
+
+        int restsOf(int m) {
+            return m < 1 || m > 63 ? -1 : rests(m).size();
+        }
+
+        int orderOf(int m, int r) {
+            return m < 1 || m > 63 || !rests(m).contains(r) ? -1 : order(m, r);
+        }
+
+        private static int killedBy(int n, int m) {
+            int killed = 0;
+            for (int r : rests(m)) {
+                killed += n % order(m, r) == 0 ? 1 : 0;
+            }
+            return killed;
+        }
+
+        /** From how many RESTS each power of a prime kills: the longest cycle takes the most of each prime. */
+        int factor(int m, int k) {
+            if (m < 1 || m > 63 || k < 0) {
+                return -1;
+            }
+            int[] longest = {1, 1, 1, 1, 1, 1};
+            for (int p = 2; p <= 60; p++) {
+                for (int power = p; isPrime(p) && power <= 60; power *= p) {
+                    int more = killedBy(power, m) / killedBy(power / p, m);
+                    for (int t = 0; more > 1; t++) {
+                        longest[t] *= p;
+                        more /= p;
+                    }
+                }
+            }
+            int many = 0;
+            while (longest[many] > 1) {
+                many++;
+            }
+            return k < many ? longest[many - 1 - k] : -1;
         }
 
         private boolean has(int field) {
